@@ -28,6 +28,7 @@ public final class RuleDeck {
     private final Waivers waivers;
     private Rule[] rules;
     private int ruleCount;
+    /** Of the latest run, if there was one since the rules were read. */
     private int latestRule;
     private boolean latestFlat;
 
@@ -48,7 +49,6 @@ public final class RuleDeck {
         for (int i = 0; i < MOST_RULES; i++) {
             rules[i] = new Rule();
         }
-        latestRule = NONE;
         latest = new Told();
         found = new Told();
         flatList = new Told();
@@ -92,7 +92,6 @@ public final class RuleDeck {
         if (answer >= 0) {
             rules = reader.handOver(rules);
             ruleCount = answer;
-            latestRule = NONE;
             latestFlat = false;
             latest.clear();
             waivers.clear();
@@ -215,7 +214,7 @@ public final class RuleDeck {
     }
 
     public int changed(long x0, long y0, long x1, long y1) throws IllegalStateException, IllegalArgumentException {
-        if (latestRule == NONE || !latestFlat) {
+        if (!latestFlat) {
             throw new IllegalStateException("the latest run was not flat, or there was none");
         }
         if (x0 > x1 || y0 > y1) {
@@ -404,15 +403,16 @@ public final class RuleDeck {
     private static final class Reader {
         static final int LONGEST_NAME = 8;
         static final int LONGEST_NUMBER = 9;
-        static final int LETTERS = 26;
+        static final int CONDITIONS = 3;
         /** Above what the digits of a number can say. */
         static final int ANY_NUMBER = 1000000000;
 
         static final int END = 0;
-        static final int NAME = 1;
-        static final int NUMBER = 2;
-        static final int SIGN = 3;
-        static final int BROKEN = 4;
+        static final int BLANK = 1;
+        static final int NAME = 2;
+        static final int NUMBER = 3;
+        static final int SIGN = 4;
+        static final int BROKEN = 5;
 
         final Tape tape;
         final int layers;
@@ -446,7 +446,11 @@ public final class RuleDeck {
             drafted = 0;
             step();
             for (int i = 0; i < MOST_RULES; i++) {
-                if (!takeRule(drafts[i])) {
+                Rule rule = drafts[i];
+                rule.forgetConditions();
+                boolean complete = takeName(rule) && takeSign('=') && takeKind(rule) && takeLayers(rule)
+                        && takeSign('<') && takeLimit(rule) && takeConditions(rule);
+                if (!complete) {
                     return -1 - word;
                 }
                 drafted++;
@@ -455,12 +459,6 @@ public final class RuleDeck {
                 }
             }
             return -1 - word;
-        }
-
-        private boolean takeRule(Rule rule) {
-            rule.forgetConditions();
-            return takeName(rule) && takeSign('=') && takeKind(rule) && takeLayers(rule)
-                    && takeSign('<') && takeLimit(rule) && takeConditions(rule);
         }
 
         private boolean takeName(Rule rule) {
@@ -532,15 +530,12 @@ public final class RuleDeck {
         }
 
         private boolean takeConditions(Rule rule) {
-            for (int taken = 0; taken <= 3; taken++) {
-                if (takeSign(';')) {
-                    return true;
-                }
+            for (int taken = 0; taken < CONDITIONS && sort == NAME; taken++) {
                 if (!takeCondition(rule)) {
                     return false;
                 }
             }
-            return false;
+            return takeSign(';');
         }
 
         private boolean takeCondition(Rule rule) {
@@ -562,54 +557,44 @@ public final class RuleDeck {
         /** Goes on to the next word: its sort, where it starts, and what it is worth. */
         private void step() {
             word++;
-            while (next < tape.size && isBlank(tape.written[next])) {
+            while (next < tape.size && sortOf(tape.written[next]) == BLANK) {
                 next++;
             }
             start = next;
             value = 0;
-            if (next >= tape.size) {
-                sort = END;
-            } else if (isLetter(tape.written[next])) {
-                stepName();
-            } else if (isDigit(tape.written[next])) {
-                stepNumber();
-            } else {
-                stepSign();
-            }
-        }
-
-        private void stepName() {
-            while (next < tape.size && isLetter(tape.written[next])) {
-                value = value * (LETTERS + 1) + (tape.written[next] - 'a' + 1);
+            sort = next < tape.size ? sortOf(tape.written[next]) : END;
+            if (sort == NAME) {
+                // Letters count from 1, so that no two names are worth the same.
+                stepOver('a' - 1, 27, LONGEST_NAME);
+            } else if (sort == NUMBER) {
+                stepOver('0', 10, LONGEST_NUMBER);
+            } else if (sort != END) {
+                value = tape.written[next];
                 next++;
             }
-            sort = next - start <= LONGEST_NAME ? NAME : BROKEN;
         }
 
-        private void stepNumber() {
-            while (next < tape.size && isDigit(tape.written[next])) {
-                value = value * 10 + (tape.written[next] - '0');
+        private void stepOver(int zero, int base, int longest) {
+            while (next < tape.size && sortOf(tape.written[next]) == sort) {
+                value = value * base + (tape.written[next] - zero);
                 next++;
             }
-            sort = next - start <= LONGEST_NUMBER ? NUMBER : BROKEN;
+            if (next - start > longest) {
+                sort = BROKEN;
+            }
         }
 
-        private void stepSign() {
-            value = tape.written[next];
-            next++;
-            sort = value == '<' || value == '=' || value == ';' ? SIGN : BROKEN;
-        }
-
-        private static boolean isBlank(int u) {
-            return u == ' ' || u == '\n';
-        }
-
-        private static boolean isLetter(int u) {
-            return u >= 'a' && u <= 'z';
-        }
-
-        private static boolean isDigit(int u) {
-            return u >= '0' && u <= '9';
+        private static int sortOf(int u) {
+            if (u >= 'a' && u <= 'z') {
+                return NAME;
+            }
+            if (u >= '0' && u <= '9') {
+                return NUMBER;
+            }
+            if (u == ' ' || u == '\n') {
+                return BLANK;
+            }
+            return u == '<' || u == '=' || u == ';' ? SIGN : BROKEN;
         }
     }
 
@@ -882,7 +867,7 @@ public final class RuleDeck {
     /** The occurrences of one cell as they lie in it, with sides by faces or corners by quarters. */
     private static final class Scene {
         final Layout layout;
-        /** How what is so many places down lies in the cell. */
+        /** How what is so many places down lies in the cell; the first one moves nothing. */
         final Move[] path = new Move[MOST_CELLS];
         int size;
         final int[] shape = new int[MOST_OCCURRENCES];
@@ -916,9 +901,7 @@ public final class RuleDeck {
         /** Gathers what the rule looks at; its own polygons alone if the rule looks at one at a time. */
         void gather(int cell, Rule rule) {
             size = 0;
-            path[0].set(0, 0, 0);
             descend(cell, 0, NONE, rule);
-            starts[0] = 0;
             for (int i = 0; i < size; i++) {
                 measure(i);
                 if (rule.kind == Kind.CORNER) {
@@ -1060,6 +1043,7 @@ public final class RuleDeck {
     private static final class Checker {
         private final Layout layout;
         private final Scene scene;
+        /** How what is so many places down lies in the cell; the first one moves nothing. */
         private final Move[] path = new Move[MOST_CELLS];
         /** Where in a list that goes by cells those of each cell begin. */
         private final int[] begin = new int[MOST_CELLS + 1];
@@ -1106,7 +1090,6 @@ public final class RuleDeck {
             }
             begin[MOST_CELLS] = next;
             into.clear();
-            path[0].set(0, 0, 0);
             layOutBelow(byCells, cell, 0, into);
             return !into.overfull;
         }

@@ -45,13 +45,18 @@ public final class CellsTest {
         deck.place(2, 1, 100, 200, 4);
         // Mirrored, turned and moved: 12 21 17 24; then mirrored and moved once more.
         due(check, deck, 0, 2, true, "112 176 117 179 0 -1 15 @0");
-        RuleDeck deep = Check.deck(1, 16, "a=area 0<9;");
+        RuleDeck deep = Check.deck(1, 16, "a=area 0<9;b=count 0<2;c=space 0 0<9;");
         Check.box(deep, 0, 0, 9999, -10000, 10000, -9999);
         for (int i = 1; i < 16; i++) {
             deep.place(i, i - 1, 10000, -10000, 0);
         }
         due(check, deep, 0, 15, true, "159999 -160000 160000 -159999 0 -1 1 @0");
         due(check, deep, 0, 15, false, "9999 -10000 10000 -9999 0 -1 1 @0");
+        due(check, deep, 1, 15, false, "159999 -160000 160000 -159999 -1 -1 1 @15");
+        deep.place(15, 14, 9998, -10000, 0);
+        deep.place(15, 14, 9996, -10000, 0);
+        due(check, deep, 2, 15, true, "159996 -160000 159997 -159999 0 0 1 @15, 159996 -160000 159999 -159999 0 0 3 @15, "
+                + "159998 -160000 159999 -159999 0 0 1 @15");
     }
 
     /** Turned by two quarters the other one lies to the left, but first stays what it is in the lowest cell. */
@@ -170,12 +175,13 @@ public final class CellsTest {
         int spare = Check.box(deck, 1, 1, 0, 0, 1, 1);
         check.due("another layer", deck.run(0, 1, true), 1500 - 31 - 31);
         check.due("by cells", deck.run(0, 1, false), 48 + 12 - 2);
-        Check.box(deck, 1, 0, 0, 0, 1, 1);
-        check.dueThrows("1504, with what is waived", UnsupportedOperationException.class, () -> deck.run(0, 1, true));
-        check.dueThrows("1504", UnsupportedOperationException.class, () -> deck.same(0, 1));
+        // One edge of six is below 99.
+        Check.polygon(deck, 1, 0, 0, 0, 200, 0, 200, 1, 100, 1, 100, 200, 0, 200);
+        check.dueThrows("1501, with what is waived", UnsupportedOperationException.class, () -> deck.run(0, 1, true));
+        check.dueThrows("1501", UnsupportedOperationException.class, () -> deck.same(0, 1));
         check.due("the latest run stays", deck.count(2), 58);
         check.dueThrows("and is not flat", IllegalStateException.class, () -> deck.changed(0, 0, 1, 1));
-        check.due("by cells", deck.run(0, 1, false), 48 + 16 - 2);
+        check.due("by cells", deck.run(0, 1, false), 48 + 13 - 2);
         check.due("others", deck.run(1, 1, true), 4);
         check.due("others", deck.violation(0, 4), spare);
         boundsViolationsByCells(check);

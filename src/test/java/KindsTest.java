@@ -212,6 +212,9 @@ public final class KindsTest {
         due(check, deck, "density 0<1", "0 0 0 0 -1 -1 0 @0");
         deck.polygon(0, 0);
         due(check, deck, "density 0<1", "0 0 0 0 -1 -1 0 @0");
+        RuleDeck single = deck();
+        Check.box(single, 0, 0, 1, 1, 2, 2);
+        due(check, single, "density 0<101", "1 1 2 2 -1 -1 100 @0");
         Check.box(deck, 0, 0, 1, 1, 3, 2);
         due(check, deck, "density 0<100", "");
         due(check, deck, "density 0<101", "1 1 3 2 -1 -1 100 @0");

@@ -1,3 +1,7 @@
+import java.util.ArrayList;
+import java.util.List;
+import java.util.Random;
+
 /** Promises 1, 5 to 9 and 17: cells, polygons, corners, voltages, places and occurrences. */
 public final class LayoutTest {
     public static void main(String[] args) {
@@ -7,6 +11,7 @@ public final class LayoutTest {
         makesPolygons(check);
         takesCorners(check);
         knowsRightPolygons(check);
+        knowsRightWalks(check);
         setsVoltages(check);
         makesPlaces(check);
         refusesCellsInThemselves(check);
@@ -124,6 +129,44 @@ public final class LayoutTest {
         Check.box(deck, 0, 0, 0, 0, 2, 2);
         check.due("a corner more", deck.corner(0, 0, 1), true);
         check.due("makes it no polygon", deck.occurrences(0), 0);
+    }
+
+    /** Walks at random on a small grid, which cross and touch themselves in every way. */
+    private static void knowsRightWalks(Check check) {
+        Random random = new Random(7);
+        int right = 0;
+        for (int round = 0; round < 800; round++) {
+            RuleDeck deck = new RuleDeck(1);
+            deck.cell();
+            int before = 0;
+            for (int polygon = 0; polygon < 64; polygon++) {
+                deck.polygon(0, 0);
+                boolean due = Model.isRight(walk(random, deck, polygon));
+                before += due ? 1 : 0;
+                check.due("occurrences with one walk more", deck.occurrences(0), before);
+            }
+            right += before;
+        }
+        check.due("many were right", right > 2000, true);
+    }
+
+    /** Up or down and to and fro in turns, back to the first y at the end. */
+    private static List<long[]> walk(Random random, RuleDeck deck, int polygon) {
+        List<long[]> taken = new ArrayList<>();
+        int last = 3 + 2 * random.nextInt(5);
+        long[] at = {random.nextInt(4), random.nextInt(4)};
+        for (int i = 0; i <= last; i++) {
+            if (i > 0) {
+                at[i % 2] = random.nextInt(4);
+            }
+            if (i == last) {
+                at = new long[] {taken.get(taken.size() - 1)[0], taken.get(0)[1]};
+            }
+            if (deck.corner(polygon, at[0], at[1])) {
+                taken.add(at.clone());
+            }
+        }
+        return taken;
     }
 
     private static void setsVoltages(Check check) {

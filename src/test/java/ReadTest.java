@@ -36,6 +36,18 @@ public final class ReadTest {
         due(check, begun.toString(), 2);
         due(check, "a=space0 1<3run2volt4end5;b=area2<9;", 2);
         due(check, "\n\n  a=space 0 1<3 end 5 run 2 volt 4;", 1);
+        due(check, "=width 0<3;", -1);
+        due(check, "a width 0<3;", -1 - 1);
+        due(check, "a 61 width 0<3;", -1 - 1);
+        due(check, "a=width 0 60 3;", -1 - 4);
+        due(check, "a=width 0<3 59", -1 - 6);
+        due(check, "a=xidth 0<3;", -1 - 2);
+        due(check, "a=width <3;", -1 - 3);
+        due(check, "a=space 0 <3;", -1 - 4);
+        due(check, "a=width 0<;", -1 - 5);
+        due(check, "a=width 0<3 b=width 0<3;", -1 - 6);
+        due(check, "a=space 0 0<3 end 1 run 1 volt 1 b=width 0<3;", -1 - 13);
+        due(check, "a=space 0 0<3 end 1 run 1 volt 1 run 2;", -1 - 13);
         due(check, "a=width 0 0<3;", -1 - 4);
         due(check, "a=width 0<b;", -1 - 5);
         due(check, "a=width 0<=3;", -1 - 5);
@@ -96,6 +108,8 @@ public final class ReadTest {
         due(check, rules(20) + "?", -1 - 140);
         due(check, rules(3) + "b=area 0<1;", -1 - 21);
         due(check, "b=area 0<1;ab=area 0<1;a=area 0<1;ba=area 0<1;", 4);
+        due(check, "az=area 0<1;ba=area 0<1;aaz=area 0<1;aba=area 0<1;azzzzzzz=area 0<1;baaaaaaa=area 0<1;", 6);
+        due(check, "zzzzzzzz=area 0<1;zzzzzzz=area 0<1;zzzzzzzz=area 0<1;", -1 - 14);
     }
 
     private static void boundsLayers(Check check) {

@@ -62,6 +62,9 @@ public final class TapeTest {
         check.due("units of none without room", deck.units(0), true);
         check.due("count(4)", deck.count(4), 600);
         check.due("blanks are no words", deck.read(), -1);
-        check.due("room again", deck.unit(' '), true);
+        for (int i = 0; i < 600; i++) {
+            check.due("room again for " + i, deck.unit(' '), true);
+        }
+        check.due("no more", deck.unit(' '), false);
     }
 }

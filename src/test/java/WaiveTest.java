@@ -4,6 +4,7 @@ public final class WaiveTest {
         Check check = new Check();
         waivesInTheLowestCell(check);
         waivesWhateverTheMeasure(check);
+        waivesOnePairAlone(check);
         waivesOneRuleAlone(check);
         waivesFortyAtMost(check);
         waivesWholeCells(check);
@@ -49,6 +50,22 @@ public final class WaiveTest {
         check.due("its box is the same, its area is not", deck.occurrences(0), 1);
         check.due("waived", deck.run(0, 0, true), 0);
         check.due("waived", deck.run(0, 0, false), 0);
+    }
+
+    /** The same gap between other polygons is another violation. */
+    private static void waivesOnePairAlone(Check check) {
+        RuleDeck deck = Check.deck(1, 1, "a=space 0 0<4;");
+        for (int i = 0; i < 2; i++) {
+            Check.box(deck, 0, 0, 0, 0, 2, 2);
+            Check.box(deck, 0, 0, 5, 0, 7, 2);
+        }
+        String gap = "2 0 5 2 ";
+        check.due("run", Check.run(deck, 0, 0, true), gap + "0 1 3 @0, " + gap + "0 3 3 @0, " + gap + "2 1 3 @0, " + gap + "2 3 3 @0");
+        check.due("waive", deck.waive(1), true);
+        check.due("run", Check.run(deck, 0, 0, true), gap + "0 1 3 @0, " + gap + "2 1 3 @0, " + gap + "2 3 3 @0");
+        check.due("waive", deck.waive(1), true);
+        check.due("by cells", Check.run(deck, 0, 0, false), gap + "0 1 3 @0, " + gap + "2 3 3 @0");
+        check.due("waived", deck.count(3), 2);
     }
 
     private static void waivesOneRuleAlone(Check check) {
