@@ -10,6 +10,7 @@ public final class ReadTest {
         boundsRules(check);
         boundsLayers(check);
         keepsRulesIfWrong(check);
+        forgetsTheTapeBefore(check);
         forgetsRunsAndWaivers(check);
         check.end();
     }
@@ -146,6 +147,15 @@ public final class ReadTest {
         check.due("read", Check.read(deck, "a=width 0<9;"), 1);
         check.due("read", Check.read(deck, "a=width 0<9;"), 1);
         check.due("violations", deck.run(0, 0, true), 2);
+    }
+
+    private static void forgetsTheTapeBefore(Check check) {
+        RuleDeck deck = new RuleDeck(1);
+        check.due("a row that is too long", Check.read(deck, "aaaaaaaaaaaaaaaa"), -1);
+        check.due("a row as long as can be", Check.read(deck, "abcdefgh"), -1 - 1);
+        check.due("a row that is too long", Check.read(deck, "a=area 0<1234567890123456"), -1 - 5);
+        check.due("a row as long as can be", Check.read(deck, "a=area 0<123456789"), -1 - 6);
+        check.due("nothing", deck.read(), -1);
     }
 
     private static void forgetsRunsAndWaivers(Check check) {
