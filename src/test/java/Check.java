@@ -4,30 +4,61 @@ import java.util.concurrent.Callable;
 final class Check {
     private int wrong = 0;
     private int asked = 0;
+    private int sentences = 0;
+    private int askedBefore = 0;
+    private String sentence = "";
+
+    /** Names the words of the document that the answers behind this call are due by. */
+    void by(String where, String words) {
+        endSentence();
+        sentences++;
+        sentence = where + " '" + words + "': ";
+    }
+
+    /** A sentence without a question would be tested by name alone. */
+    private void endSentence() {
+        if (sentences > 0 && asked == askedBefore) {
+            wrong++;
+            System.out.println(sentence + "nothing was asked");
+        }
+        askedBefore = asked;
+    }
 
     void due(String what, long got, long want) {
-        asked++;
-        if (got != want) {
-            wrong++;
-            System.out.println(what + " answered " + got + ", due is " + want);
-        }
+        due(what, String.valueOf(got), String.valueOf(want));
     }
 
     void due(String what, boolean got, boolean want) {
-        due(what, got ? 1 : 0, want ? 1 : 0);
+        due(what, String.valueOf(got), String.valueOf(want));
     }
 
     void due(String what, String got, String want) {
         asked++;
         if (!got.equals(want)) {
             wrong++;
-            System.out.println(what + " answered " + got + ", due is " + want);
+            System.out.println(sentence + what + " answered " + got + ", due is " + want);
         }
     }
 
     /** Exactly this class must be thrown: a subclass would be an exception that came by itself. */
     void dueThrows(String what, Class<? extends RuntimeException> want, Callable<?> call) {
         due(what, thrownBy(call), want.getSimpleName());
+    }
+
+    void dueNoSuch(String what, Callable<?> call) {
+        dueThrows(what, IndexOutOfBoundsException.class, call);
+    }
+
+    void dueFull(String what, Callable<?> call) {
+        dueThrows(what, IllegalStateException.class, call);
+    }
+
+    void dueOutOfRange(String what, Callable<?> call) {
+        dueThrows(what, IllegalArgumentException.class, call);
+    }
+
+    void dueTooMany(String what, Callable<?> call) {
+        dueThrows(what, UnsupportedOperationException.class, call);
     }
 
     static String thrownBy(Callable<?> call) {
@@ -40,15 +71,25 @@ final class Check {
     }
 
     void end() {
+        endSentence();
         if (wrong != 0) {
             System.out.println(wrong + " of " + asked + " answers are not as due");
             System.exit(1);
         }
     }
 
+    static int four(int a, int b, int c, int d) {
+        return (a << 24) | (b << 16) | (c << 8) | d;
+    }
+
+    /** By fours, since an object is promised to answer 512 calls alone. */
     static void type(RuleDeck deck, String text) {
-        for (int i = 0; i < text.length(); i++) {
-            if (!deck.unit(text.charAt(i))) {
+        for (int i = 0; i < text.length(); i += 4) {
+            int packed = 0;
+            for (int j = i; j < Math.min(i + 4, text.length()); j++) {
+                packed = packed << 8 | text.charAt(j);
+            }
+            if (!deck.units(packed)) {
                 throw new IllegalStateException("the tape does not take " + text);
             }
         }
@@ -59,12 +100,18 @@ final class Check {
         return deck.read();
     }
 
-    /** A deck with so many layers and cells, and the rules of a text. */
-    static RuleDeck deck(int layers, int cells, String text) {
+    /** A deck with so many layers and cells, and no rules. */
+    static RuleDeck deck(int layers, int cells) {
         RuleDeck deck = new RuleDeck(layers);
         for (int i = 0; i < cells; i++) {
             deck.cell();
         }
+        return deck;
+    }
+
+    /** A deck with so many layers and cells, and the rules of a text. */
+    static RuleDeck deck(int layers, int cells, String text) {
+        RuleDeck deck = deck(layers, cells);
         if (read(deck, text) < 0) {
             throw new IllegalStateException("no rules: " + text);
         }
@@ -103,5 +150,35 @@ final class Check {
             text.append(k == 0 ? "" : ", ").append(told(deck, k));
         }
         return text.toString();
+    }
+
+    /** What one rule, read in place of those before, tells of cell 0, flat and by cells. */
+    void dueTold(RuleDeck deck, String rule, String want) {
+        due("read " + rule, read(deck, "r=" + rule + ";"), 1);
+        due(rule + " flat", run(deck, 0, 0, true), want);
+        due(rule + " by cells", run(deck, 0, 0, false), want);
+    }
+
+    /** All that can be asked of a deck without a change: what a refused call must leave as it is. */
+    static String state(RuleDeck deck, int cells) {
+        StringBuilder text = new StringBuilder();
+        for (int what = 0; what <= 4; what++) {
+            text.append(deck.count(what)).append(' ');
+        }
+        for (int cell = 0; cell < cells; cell++) {
+            text.append(occurrences(deck, cell)).append(' ');
+        }
+        for (int k = 0; k < deck.count(2) && k < 5; k++) {
+            text.append(told(deck, k)).append(' ');
+        }
+        return text.append(thrownBy(() -> deck.changed(0, 0, 9, 9))).toString();
+    }
+
+    private static String occurrences(RuleDeck deck, int cell) {
+        try {
+            return String.valueOf(deck.occurrences(cell));
+        } catch (UnsupportedOperationException e) {
+            return "too many";
+        }
     }
 }
