@@ -10,6 +10,10 @@ public final class LayoutTermsTest {
     private static final long[] NOTCHED = {0, 0, 9, 0, 9, 6, 7, 6, 7, 2, 2, 2, 2, 6, 0, 6};
     private static final long[] OUT_OF_RANGE = {-10001, 10001, Long.MIN_VALUE, Long.MAX_VALUE, 1L << 32, -(1L << 32), (1L << 32) + 5};
 
+    /** Where the box 1, 2, 4, 7 lies when it is turned in each way, then moved by 100 and 200. */
+    private static final long[][] TURNED = {{101, 202, 104, 207}, {93, 201, 98, 204}, {96, 193, 99, 198}, {102, 196, 107, 199},
+        {101, 193, 104, 198}, {102, 201, 107, 204}, {96, 202, 99, 207}, {93, 196, 98, 199}};
+
     public static void main(String[] args) {
         Check check = new Check();
         cells(check);
@@ -31,8 +35,11 @@ public final class LayoutTermsTest {
         placeRange(check);
         turns(check);
         turnsInTurns(check);
+        turnedSides(check);
+        turnedCorners(check);
         cellsInThemselves(check);
         occurrences(check);
+        deepest(check);
         meetings(check);
         check.end();
     }
@@ -156,7 +163,9 @@ public final class LayoutTermsTest {
     private static void rightIfItCloses(Check check) {
         check.by(TERMS, "the last one differs from the first one in just one of x and y");
         dueRight(check, "in none", false, 0, 0, 2, 0, 2, 2, 0, 2, 0, 0);
-        dueRight(check, "in both", false, 0, 0, 2, 0, 2, 2, 1, 2);
+        dueRight(check, "in none, six corners", false, 1, 0, 2, 0, 2, 2, 0, 2, 0, 0, 1, 0);
+        dueRight(check, "in both behind a side that lies", false, 0, 0, 2, 0, 2, 2, 1, 2);
+        dueRight(check, "in both behind a side that stands", false, 0, 0, 0, 2, 2, 2, 2, 1);
         dueRight(check, "in both, six corners", false, 0, 0, 4, 0, 4, 4, 2, 4, 2, 2, 1, 2);
         dueRight(check, "in y", true, 0, 0, 2, 0, 2, 2, 0, 2);
         dueRight(check, "in x", true, 0, 0, 0, 2, 2, 2, 2, 0);
@@ -308,17 +317,21 @@ public final class LayoutTermsTest {
                 "-10000 -10000 -9999 -9999 0 -1 1 @1, 10000 10000 10001 10001 0 -1 1 @1");
     }
 
+    /** The box of TURNED in cell 1, turned in cell 0. */
+    private static RuleDeck turned(int turn, String text) {
+        RuleDeck deck = Check.deck(1, 2, text);
+        Check.box(deck, 1, 0, 1, 2, 4, 7);
+        deck.place(0, 1, 100, 200, turn);
+        return deck;
+    }
+
     private static void turns(Check check) {
         String[] sentences = {"0 to 3 quarters to the left", "4 to 7 the same less 4 after mirroring (y becomes -y)",
             "turned by a quarter x, y becomes -y, x; then it is moved by x and y"};
-        String[] boxes = {"101 202 104 207", "93 201 98 204", "96 193 99 198", "102 196 107 199",
-            "101 193 104 198", "102 201 107 204", "96 202 99 207", "93 196 98 199"};
         for (int turn = 0; turn < 8; turn++) {
             check.by(TERMS, turn == 1 ? sentences[2] : sentences[turn / 4]);
-            RuleDeck deck = Check.deck(1, 2, "a=area 0<99;");
-            Check.box(deck, 1, 0, 1, 2, 4, 7);
-            deck.place(0, 1, 100, 200, turn);
-            check.due("turn " + turn, Check.run(deck, 0, 0, true), boxes[turn] + " 0 -1 15 @1");
+            RuleDeck deck = turned(turn, "a=area 0<99;");
+            check.due("turn " + turn, Check.run(deck, 0, 0, true), row(TURNED[turn]) + " 0 -1 15 @1");
             check.due("in its own cell", Check.run(deck, 0, 0, false), "1 2 4 7 0 -1 15 @1");
         }
         check.by(TERMS, "with a TURN: 0 to 3 quarters to the left, 4 to 7");
@@ -355,6 +368,52 @@ public final class LayoutTermsTest {
         return new long[] {at[0] + x, at[1] + y};
     }
 
+    private static String row(long... numbers) {
+        StringBuilder text = new StringBuilder();
+        for (long number : numbers) {
+            text.append(text.length() == 0 ? "" : " ").append(number);
+        }
+        return text.toString();
+    }
+
+    /** With neighbours on all sides: what faces right, up, left and down is as the box lies. */
+    private static void turnedSides(Check check) {
+        check.by(TERMS, "those of the cell there, turned and moved");
+        for (int turn = 0; turn < 8; turn++) {
+            RuleDeck deck = turned(turn, "a=space 0 0<4;");
+            long x0 = TURNED[turn][0];
+            long y0 = TURNED[turn][1];
+            long x1 = TURNED[turn][2];
+            long y1 = TURNED[turn][3];
+            Check.box(deck, 0, 0, x1 + 2, y0, x1 + 9, y1);
+            Check.box(deck, 0, 0, x0, y1 + 3, x1, y1 + 9);
+            Check.box(deck, 0, 0, x0 - 9, y0, x0 - 1, y1);
+            Check.box(deck, 0, 0, x0, y0 - 9, x1, y0 - 2);
+            check.due("turn " + turn, Check.run(deck, 0, 0, true), row(x0 - 1, y0, x0, y1, 3, 0, 1) + " @0, "
+                    + row(x0, y0 - 2, x1, y0, 4, 0, 2) + " @0, " + row(x0, y1, x1, y1 + 3, 0, 2, 3) + " @0, "
+                    + row(x1, y0, x1 + 2, y1, 0, 1, 2) + " @0");
+        }
+    }
+
+    /** With neighbours aslant: each outer corner points as the box lies. */
+    private static void turnedCorners(Check check) {
+        check.by(TERMS, "those of the cell there, turned and moved");
+        for (int turn = 0; turn < 8; turn++) {
+            RuleDeck deck = turned(turn, "a=corner 0 0<4;");
+            long x0 = TURNED[turn][0];
+            long y0 = TURNED[turn][1];
+            long x1 = TURNED[turn][2];
+            long y1 = TURNED[turn][3];
+            Check.box(deck, 0, 0, x1 + 1, y1 + 1, x1 + 9, y1 + 9);
+            Check.box(deck, 0, 0, x1 + 1, y0 - 9, x1 + 9, y0 - 2);
+            Check.box(deck, 0, 0, x0 - 9, y1 + 1, x0 - 2, y1 + 9);
+            Check.box(deck, 0, 0, x0 - 9, y0 - 9, x0 - 2, y0 - 2);
+            check.due("turn " + turn, Check.run(deck, 0, 0, true), row(x0 - 2, y0 - 2, x0, y0, 4, 0, 8) + " @0, "
+                    + row(x0 - 2, y1, x0, y1 + 1, 3, 0, 5) + " @0, " + row(x1, y0 - 2, x1 + 1, y0, 0, 2, 5) + " @0, "
+                    + row(x1, y1, x1 + 1, y1 + 1, 0, 1, 2) + " @0");
+        }
+    }
+
     private static void cellsInThemselves(Check check) {
         check.by(TERMS, "No cell is in itself, directly or over others");
         RuleDeck deck = Check.deck(1, 16);
@@ -389,6 +448,24 @@ public final class LayoutTermsTest {
         check.due("a cell without places or polygons", Check.deck(1, 1).occurrences(0), 0);
         check.due("cells of nothing may be in others any number of times", emptyTower().occurrences(0), 0);
         check.due("and be run", Check.run(emptyTower(), 0, 0, false), "0 0 0 0 -1 -1 0 @0");
+    }
+
+    /** All 16 cells in each other, as far out as can be. */
+    private static void deepest(Check check) {
+        check.by(TERMS, "for each of its places those of the cell there, turned and moved");
+        RuleDeck deck = Check.deck(1, 16, "a=area 0<9;b=count 0<2;c=space 0 0<9;");
+        Check.box(deck, 15, 0, 9999, -10000, 10000, -9999);
+        for (int i = 1; i < 16; i++) {
+            deck.place(i - 1, i, 10000, -10000, 0);
+        }
+        check.due("one", deck.occurrences(0), 1);
+        check.due("flat", Check.run(deck, 0, 0, true), "159999 -160000 160000 -159999 0 -1 1 @15");
+        check.due("by cells", Check.run(deck, 0, 0, false), "9999 -10000 10000 -9999 0 -1 1 @15");
+        check.due("of the whole", Check.run(deck, 1, 0, false), "159999 -160000 160000 -159999 -1 -1 1 @0");
+        deck.place(0, 1, 9998, -10000, 0);
+        deck.place(0, 1, 9996, -10000, 0);
+        check.due("pairs", Check.run(deck, 2, 0, true), "159996 -160000 159997 -159999 0 0 1 @0, "
+                + "159996 -160000 159999 -159999 0 0 3 @0, 159998 -160000 159999 -159999 0 0 1 @0");
     }
 
     private static RuleDeck emptyTower() {

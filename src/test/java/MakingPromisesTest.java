@@ -115,14 +115,14 @@ public final class MakingPromisesTest {
     }
 
     private static void unitsWithRoom(Check check) {
-        int[] full = {' ', ' ', ' ', ' '};
+        check.by("Promise 3", "there was room for them (else none comes)");
         for (int room = 0; room <= 4; room++) {
             for (int many = 0; many <= 4; many++) {
                 RuleDeck deck = new RuleDeck(1);
                 Check.type(deck, " ".repeat(600 - room));
                 int packed = 0;
                 for (int i = 0; i < many; i++) {
-                    packed |= full[i] << (8 * i);
+                    packed |= ' ' << (8 * i);
                 }
                 check.due(many + " with room for " + room, deck.units(packed), many <= room);
                 check.due("so many", deck.count(4), 600 - room + (many <= room ? many : 0));

@@ -98,15 +98,31 @@ public final class TellingTermsTest {
         RuleDeck standing = Check.deck(1, 1, "a=width 0<99;");
         Check.box(standing, 0, 0, 0, 0, 3, 8);
         dueRun(check, standing, true, "0 0 3 8 0 -1 3 @0, 0 0 3 8 0 -1 8 @0");
+        RuleDeck pairs = Check.deck(1, 1, "a=overlap 0 0<4;");
+        Check.box(pairs, 0, 0, 0, 0, 6, 5);
+        Check.box(pairs, 0, 0, 4, 2, 10, 9);
+        Check.box(pairs, 0, 0, 4, 2, 10, 9);
+        String common = "4 2 6 5 0 ";
+        dueRun(check, pairs, true, common + "1 2 @0, " + common + "1 3 @0, " + common + "2 2 @0, " + common + "2 3 @0");
         check.by(TERMS, "then by the cell in which they are met");
+        RuleDeck twice = Check.deck(1, 2, "a=overlap 0 0<4;");
+        Check.box(twice, 1, 0, 0, 0, 6, 5);
+        Check.box(twice, 1, 0, 4, 2, 10, 9);
+        twice.place(0, 1, 0, 0, 0);
+        twice.place(0, 1, 0, 0, 0);
+        String two = common + "1 2 @";
+        String three = common + "1 3 @";
+        dueRun(check, twice, true, two + "0, " + two + "0, " + two + "1, " + two + "1, "
+                + three + "0, " + three + "0, " + three + "1, " + three + "1");
         RuleDeck cells = Check.deck(1, 4, "a=space 0 0<3;");
         Check.box(cells, 3, 0, 0, 0, 2, 2);
         for (int cell = 1; cell <= 2; cell++) {
-            cells.place(cell, 3, 0, 0, 0);
-            cells.place(cell, 3, 4, 0, 0);
+            // The boxes there would tell the greater cell first.
+            cells.place(cell, 3, -50 * cell, 0, 0);
+            cells.place(cell, 3, 4 - 50 * cell, 0, 0);
         }
-        cells.place(0, 2, 0, 0, 0);
-        cells.place(0, 1, 0, 0, 0);
+        cells.place(0, 2, 100, 0, 0);
+        cells.place(0, 1, 50, 0, 0);
         String gap = "2 0 4 2 0 0 2 @";
         dueRun(check, cells, true, gap + "0, " + gap + "0, " + gap + "1, " + gap + "2");
     }
@@ -451,6 +467,12 @@ public final class TellingTermsTest {
             deck.place(0, 1, 0, 0, 0);
         }
         check.due("100", deck.occurrences(0), 100);
+        for (String kind : new String[] {"width 0", "notch 0", "area 0", "edge 0", "corners 0", "density 0", "count 0", "space 0 0",
+            "corner 0 0", "enclose 0 0", "overlap 0 0"}) {
+            Check.read(deck, "a=" + kind + "<0;");
+            check.due(kind + " of 100", Check.run(deck, 0, 0, true), "");
+        }
+        Check.read(deck, "a=count 0<200;b=area 0<1;");
         dueRun(check, deck, true, "0 0 1 1 -1 -1 100 @0");
         dueRun(check, deck, false, "0 0 1 1 -1 -1 100 @0");
         check.due("same", deck.same(0, 0), true);
@@ -574,6 +596,7 @@ public final class TellingTermsTest {
     }
 
     private static void refusedRunsChangeNothing(Check check) {
+        check.by(TERMS, "A call that throws changes nothing");
         for (int flat = 0; flat < 2; flat++) {
             RuleDeck deck = edges1500();
             Check.polygon(deck, 0, 0, 0, 0, 200, 0, 200, 1, 100, 1, 100, 200, 0, 200);

@@ -199,6 +199,15 @@ public final class TextTermsTest {
             }
         }
         due(check, String.join(" ", words), 2);
+        dueWrong(check, "=area 0<1;", 0);
+        dueWrong(check, "a area 0<1;", 1);
+        dueWrong(check, "a=0<1;", 2);
+        dueWrong(check, "a=0 0<1;", 2);
+        dueWrong(check, "a=area<1;", 3);
+        dueWrong(check, "a=space 0<1;", 4);
+        dueWrong(check, "a=area 0 1;", 4);
+        dueWrong(check, "a=area 0<;", 5);
+        dueWrong(check, "a=area 0<1 b=area 0<1;", 6);
         dueWrong(check, "a=width 0<3 b=width 0<3;", 6);
         dueWrong(check, "a=space 0 0<3 end 1 run 1 volt 1 b=width 0<3;", 13);
         dueWrong(check, "a=width 0<3 run 1 2;", 8);

@@ -272,6 +272,11 @@ public final class ViolationTermsTest {
         RuleDeck passing = pair(box(0, 0, 2, 6), box(5, 5, 7, 11));
         check.dueTold(passing, "space 0 0<4 end 6", "");
         check.dueTold(passing, "space 0 0<4 end 7", "2 5 5 6 0 1 3 @0");
+        // Wherever they lie.
+        check.dueTold(pair(box(0, 20, 2, 24), box(5, 19, 7, 29)), "space 0 0<4 end 5", "2 20 5 24 0 1 3 @0");
+        check.dueTold(pair(box(0, 19, 2, 29), box(5, 20, 7, 24)), "space 0 0<4 end 5", "2 20 5 24 0 1 3 @0");
+        check.dueTold(pair(box(0, -24, 2, -20), box(5, -29, 7, -19)), "space 0 0<4 end 4", "");
+        check.dueTold(pair(box(0, -29, 2, -19), box(5, -24, 7, -20)), "space 0 0<4 end 4", "");
     }
 
     private static void outerCorners(Check check) {
@@ -362,6 +367,13 @@ public final class ViolationTermsTest {
         RuleDeck alone = deck();
         Check.box(alone, 0, 0, 0, 0, 4, 4);
         check.dueTold(alone, "enclose 0 0<99", "");
+        RuleDeck mixed = deck();
+        Check.box(mixed, 0, 0, 0, 0, 8, 8);
+        Check.box(mixed, 0, 0, -1, -2, 11, 12);
+        Check.box(mixed, 0, 1, -1, -1, 20, 20);
+        Check.box(mixed, 0, 1, -2, -9, 30, 30);
+        check.dueTold(mixed, "enclose 0 1<2", "-2 -2 -1 12 1 3 1 @0, -1 -1 -1 12 1 2 0 @0, -1 0 0 8 0 2 1 @0, 0 -1 8 0 0 2 1 @0");
+        check.dueTold(mixed, "enclose 1 0<2", "-1 -2 11 -1 2 1 1 @0, -1 -1 -1 12 2 1 0 @0");
         RuleDeck alike = pair(box(0, 0, 4, 4), box(0, 0, 4, 4));
         check.dueTold(alike, "enclose 0 0<1", "0 0 0 4 0 1 0 @0, 0 0 0 4 1 0 0 @0, 0 0 4 0 0 1 0 @0, 0 0 4 0 1 0 0 @0, "
                 + "0 4 4 4 0 1 0 @0, 0 4 4 4 1 0 0 @0, 4 0 4 4 0 1 0 @0, 4 0 4 4 1 0 0 @0");
@@ -485,6 +497,12 @@ public final class ViolationTermsTest {
         check.dueTold(almost, "density 0<100", "0 0 100 1 -1 -1 99 @0");
         check.dueTold(almost, "density 1<2", "0 0 100 1 -1 -1 1 @0");
         check.dueTold(almost, "density 1<1", "");
+        RuleDeck aside = pair(box(10, -7, 14, -6), box(11, -6, 12, 3), 1);
+        check.dueTold(aside, "density 0<11", "10 -7 14 3 -1 -1 10 @0");
+        check.dueTold(aside, "density 1<23", "10 -7 14 3 -1 -1 22 @0");
+        RuleDeck single = deck();
+        Check.box(single, 0, 0, 1, 1, 2, 2);
+        check.dueTold(single, "density 0<101", "1 1 2 2 -1 -1 100 @0");
         RuleDeck wide = deck();
         for (int i = 0; i < 60; i++) {
             Check.box(wide, 0, 0, -10000, -10000, 10000, 10000);
